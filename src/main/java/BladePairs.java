@@ -1446,8 +1446,11 @@ public final class BladePairs {
 
         private final Forge forge = new Forge();
         private final Forge children = new Forge();
+        /** Of each DOWN his UP, of each UP her DOWN. */
         private final int[] row = new int[MOST];
         private final int[] mate = new int[MOST];
+        /** The PAIRS that are told, as a ROW. */
+        private final int[] before = new int[MOST];
         private final int[] chosen = new int[MOST];
         private final int[] order = new int[MOST];
         private final int[] asked = new int[MOST];
@@ -1459,6 +1462,7 @@ public final class BladePairs {
         private void bind(Forge f) {
             forge.copyFrom(f);
             for (int d = 0; d < forge.downs.size; d++) {
+                before[d] = forge.upOf(d) == NONE ? MOST : forge.upOf(d);
                 for (int u = 0; u < forge.ups.size; u++) {
                     fits[d * WIDTH + u] = forge.fitOf(d, u);
                 }
@@ -1509,13 +1513,11 @@ public final class BladePairs {
 
         private void takePairs() {
             for (int d = 0; d < forge.downs.size; d++) {
-                int u = forge.upOf(d);
-                if (u != NONE) {
-                    couple(d, u);
-                }
+                couple(d, before[d]);
             }
         }
 
+        /** Nothing, if one of them is nobody. */
         private void couple(int d, int u) {
             if (d >= 0 && d < MOST && u >= 0 && u < MOST) {
                 row[d] = u;
@@ -1717,8 +1719,7 @@ public final class BladePairs {
         private int changes() {
             int changes = 0;
             for (int d = 0; d < forge.downs.size; d++) {
-                int before = forge.upOf(d) == NONE ? MOST : forge.upOf(d);
-                changes += row[d] != before ? 1 : 0;
+                changes += row[d] != before[d] ? 1 : 0;
             }
             return changes;
         }
@@ -1745,7 +1746,7 @@ public final class BladePairs {
         int toPart() {
             int parted = 0;
             for (int d = 0; d < forge.downs.size; d++) {
-                parted += forge.upOf(d) != NONE && forge.upOf(d) != row[d] ? 1 : 0;
+                parted += before[d] != MOST && row[d] != before[d] ? 1 : 0;
             }
             return parted;
         }
@@ -1753,7 +1754,7 @@ public final class BladePairs {
         int toRivet() {
             int riveted = 0;
             for (int d = 0; d < forge.downs.size; d++) {
-                riveted += row[d] != MOST && forge.upOf(d) != row[d] ? 1 : 0;
+                riveted += row[d] != MOST && row[d] != before[d] ? 1 : 0;
             }
             return riveted;
         }
@@ -2118,8 +2119,9 @@ public final class BladePairs {
             Arrays.fill(earned, 0);
             for (int left = 1; left <= days && left <= GRIND_DAYS; left++) {
                 for (int edge = 0; edge < EDGES; edge++) {
-                    int ground = mostEarned(left - 1, Math.min(EDGE_MOST, edge + 5));
-                    earned[left * EDGES + edge] = Math.max(byCutting(left, edge), ground);
+                    int ground = earned[(left - 1) * EDGES + Math.min(EDGE_MOST, edge + 5)];
+                    int cut = edge + earned[(left - 1) * EDGES + Math.max(0, edge - 1)];
+                    earned[left * EDGES + edge] = Math.max(cut, ground);
                 }
             }
         }
@@ -2129,18 +2131,15 @@ public final class BladePairs {
             return at >= 0 && at < earned.length ? earned[at] : 0;
         }
 
-        private int byCutting(int left, int edge) {
-            return edge + mostEarned(left - 1, Math.max(0, edge - 1));
-        }
-
         /** One cuts as long as that is as good, so the first day to grind is the latest. */
         int firstGrinding(int days, int edge) {
             int e = edge;
             for (int day = 0; day < days; day++) {
-                if (byCutting(days - day, e) < mostEarned(days - day, e)) {
+                int less = Math.max(0, e - 1);
+                if (e + mostEarned(days - day - 1, less) < mostEarned(days - day, e)) {
                     return day;
                 }
-                e = Math.max(0, e - 1);
+                e = less;
             }
             return NONE;
         }
