@@ -81,14 +81,16 @@ public final class BladePairs {
     }
 
     public int text(int sort, int at) {
+        // The tape is taken by every call, also by one that reads no text.
+        int taken = told.length;
+        told.length = 0;
         told.fault = 0;
         told.place = NONE;
         int target = told.target(sort, at);
         if (target == NO_SUCH) {
             return NO_SUCH;
         }
-        reader.read(told.tape, told.length, sort);
-        told.length = 0;
+        reader.read(told.tape, taken, sort);
         told.fault = reader.fault;
         told.place = reader.place;
         if (reader.fault != 0) {

@@ -6,6 +6,7 @@ public final class TextTest {
         newObject();
         tapeGrowsAndShrinks();
         textsHaveNumbers();
+        everyTextTakesTheTape();
         faultsOfSyntax();
         faultsOfNumbers();
         faultsOfMany();
@@ -112,11 +113,54 @@ public final class TextTest {
         Check.due("no place", x.fault(1), NONE);
         Check.due("empty", x.text(0, 1), 1);
         Check.due("the tape was empty", x.forge(1, 1), 0);
-        // no text is read for -2: the tape stays
-        Check.tape(x, "up 7 0 0 0;");
-        Check.due("as many as may be", x.text(0, NONE), -2);
-        Check.due("the tape stays", x.text(0, 0), 0);
-        Check.due("LENGTH", x.forge(0, 60), 7);
+    }
+
+    /** Also where it answers -2, whichever of its reasons there is, and for each sort. */
+    private static void everyTextTakesTheTape() {
+        for (int sort = 0; sort < 3; sort++) {
+            BladePairs x = new BladePairs();
+            takesTape(x, sort, 0, -2);
+            takesTape(x, sort, -2, -2);
+            takesTape(x, sort, NONE, 0);
+            takesTape(x, sort, 1, -2);
+            takesTape(x, sort, NONE, 1);
+            takesTape(x, sort, NONE, -2);
+            takesTape(x, sort, 2, -2);
+            takesTape(x, sort, 1, 1);
+        }
+        BladePairs x = new BladePairs();
+        takesTape(x, -1, NONE, -2);
+        takesTape(x, 3, 0, -2);
+        Check.due("nothing was told", x.count(0) + x.count(1) + x.count(2), 0);
+        // what was on the tape is no part of the next text, and no FAULT is found in it
+        Check.due("no such FORGE", Check.tell(x, 0, 0, "up 9 9 9 9;"), -2);
+        Check.due("FAULT", x.fault(0), 0);
+        Check.due("place", x.fault(1), NONE);
+        Check.due("a further one", x.text(0, NONE), 0);
+        Check.due("UPS", x.forge(0, 1), 0);
+        // a tape that was full has room again
+        for (int i = 0; i < 30; i++) {
+            x.feed(0, 0, 0, 0, 0);
+        }
+        Check.due("full", x.feed(0, 0, 0, 0, 0), NONE);
+        Check.due("no such sort", x.text(9, NONE), -2);
+        Check.due("room again", x.feed(0, 0, 0, 0, 0), 20);
+        // an image from ahead of the call still has the tape
+        x.image(0);
+        Check.due("no such YEAR", x.text(1, 1), -2);
+        Check.due("empty", x.end(1), NONE);
+        x.again(0);
+        Check.due("as the image has it", x.end(20), 20);
+    }
+
+    /** By a tape of blanks, which is a text of each sort. */
+    private static void takesTape(BladePairs x, int sort, int at, int due) {
+        x.end(0);
+        x.feed(0x20202020, 0x20202020, 0x20202020, 0x20202020, 0x20202020);
+        String call = "text(" + sort + ", " + at + ")";
+        Check.due(call, x.text(sort, at), due);
+        Check.due("the tape is empty behind " + call, x.end(1), NONE);
+        Check.due("and begins anew", x.feed(0, 0, 0, 0, 0), 20);
     }
 
     private static void fault(int sort, String text, int fault, int place) {
