@@ -8,8 +8,18 @@ final class Check {
 
     private static int wrong = 0;
     private static int asked = 0;
+    private static String about = "";
 
     private Check() {
+    }
+
+    /** What stands ahead of every answer that is not as due. */
+    static void about(String what) {
+        about = what;
+    }
+
+    static int asked() {
+        return asked;
     }
 
     static void due(String what, long got, long want) {
@@ -17,7 +27,7 @@ final class Check {
         if (got != want) {
             wrong++;
             if (wrong <= 50) {
-                System.out.println(what + " answered " + got + ", due is " + want);
+                System.out.println(about + what + " answered " + got + ", due is " + want);
             }
         }
     }
@@ -60,7 +70,10 @@ final class Check {
     }
 
     static void end() {
-        String name = StackWalker.getInstance(StackWalker.Option.RETAIN_CLASS_REFERENCE).getCallerClass().getName();
+        end(StackWalker.getInstance(StackWalker.Option.RETAIN_CLASS_REFERENCE).getCallerClass().getName());
+    }
+
+    static void end(String name) {
         System.out.println(name + ": " + asked + " answers, " + wrong + " not as due");
         if (wrong != 0) {
             System.exit(1);
