@@ -188,7 +188,8 @@ public final class EdgeClothTest {
         Check.due("SHARE of " + down + " in " + forge + ", D", x.share(0, down, true), below);
     }
 
-    @Says(promise = 32, words = "the mean of what they are worth more with it than ahead of it, a fraction in least terms")
+    @Says(promise = 32, words = {"the mean of what they are worth more with it than ahead of it, a fraction in least terms",
+        "some PAIRS are worth PRICES of all CLOTHS together that one of them at least cuts, EDGES as told"})
     static void shareOfNothingAndOfAll() {
         // nothing is 0 by 1
         share(pairs(0), 0, 0, 1);

@@ -95,7 +95,8 @@ public final class EdgeGameTest {
         return best;
     }
 
-    @Says(promise = 16, words = "the first day, from 0 on, on which one grinds, in that of all best ways by which it is latest (or never)")
+    @Says(promise = 16, words = {"the first day, from 0 on, on which one grinds, in that of all best ways by which it is latest (or never)",
+        "GRIND: the most, or (first) the day (NONE: never)."})
     static void theLatestFirstDay() {
         // on the last day one cuts for 0, or grinds for nothing: never is the latest
         grind(1, 0, 0, NONE);
@@ -187,7 +188,8 @@ public final class EdgeGameTest {
         return true;
     }
 
-    @Says(promise = 18, words = {"RESTS of costs c, d: how many (k NONE), or the k-th", "NONE: there is none such, or other numbers."})
+    @Says(promise = 18, words = {"RESTS of costs c, d: how many (k NONE), or the k-th; k -2: who sells in most (there being none: NONE).",
+        "two call prices, 0 .. 20, for a cloth that costs one c, the other one d, 0 .. 20"})
     static void restsOfTheLeastAndTheMostCosts() {
         for (int[] costs : new int[][] {{0, 0}, {0, 20}, {20, 0}, {20, 20}, {0, 1}, {1, 0}, {19, 20}, {20, 19}, {10, 10}}) {
             BladePairs x = new BladePairs();
@@ -245,9 +247,10 @@ public final class EdgeGameTest {
                         sells[i / 21 <= i % 21 ? 0 : 1]++;
                     }
                 }
+                Check.due("there always are RESTS", sells[0] + sells[1] > 0, true);
                 if (sells[0] == sells[1]) {
                     alike++;
-                    Check.due("both in as many, costs " + c + ", " + d, new BladePairs().rest(c, d, -2), sells[0] == 0 ? NONE : 0);
+                    Check.due("both in as many, costs " + c + ", " + d, new BladePairs().rest(c, d, -2), 0);
                 }
             }
         }

@@ -70,7 +70,8 @@ public final class EdgeRowTest {
         }
     }
 
-    @Says(promise = 11, words = "how many couples there are who both like each other better than whom they have in it (none is worst)")
+    @Says(promise = 11, words = {"how many couples there are who both like each other better than whom they have in it (none is worst)",
+        "Each BLADE likes those of the other side by FIT, the greatest best, of like ones the least number"})
     static void leavingOfThosePaired() {
         // all with the one they like best, and with the one of the next number
         Check.due("twins", Check.forge(TWINS + Edges.rivets(0, 1, 2, 3, 4, 5)).leaving(0, 0), 0);
@@ -138,8 +139,12 @@ public final class EdgeRowTest {
         }
     }
 
-    @Says(promise = {12, 13}, words = "the fewest DOWNS have another one than in the PAIRS that are told (none counts as one, too)")
+    @Says(promise = {12, 13}, words = "the fewest DOWNS have another one than in the PAIRS that are told (none counts as one, too); of several "
+        + "the first by numbers; how many.")
     static void changedOfNoneAndOfAll() {
+        // FIT being the same for both, one ROW stands in any FORGE, so there never are several
+        row(Check.forge(TWINS + Edges.rivets(1, 2, 3, 4, 5, 0)), 3, 0, 0, 1, 2, 3, 4, 5);
+        row(Check.forge(Edges.alike(3, 3) + Edges.rivets(2, 1, 0)), 3, 0, 0, 1, 2);
         Check.due("as told", Check.forge(TWINS + Edges.rivets(0, 1, 2, 3, 4, 5)).rows(0, 0), 0);
         Check.due("all others", Check.forge(TWINS + Edges.rivets(1, 2, 3, 4, 5, 0)).rows(0, 0), 6);
         Check.due("no PAIRS", Check.forge(TWINS).rows(0, 0), 6);
@@ -369,8 +374,8 @@ public final class EdgeRowTest {
         }
     }
 
-    @Says(promise = 33, words = "if that is below 0, or there are no UPS, he leaves; else, if nobody has her, he has her; if somebody has, "
-        + "her WAGE is 1 more, and he has her (the other one none)")
+    @Says(promise = 33, words = "looks for the UP for whom FIT less WAGE is greatest, of several the least; if that is below 0, or there are no "
+        + "UPS, he leaves; else, if nobody has her, he has her; if somebody has, her WAGE is 1 more, and he has her (the other one none)")
     static void hireTillItIsBelow0() {
         hire(Edges.alike(6, 0), new int[] {NONE, NONE, NONE, NONE, NONE, NONE});
         hire(Edges.alike(0, 6), new int[] {}, 0, 0, 0, 0, 0, 0);

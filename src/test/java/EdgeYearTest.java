@@ -305,7 +305,8 @@ public final class EdgeYearTest {
         }
     }
 
-    @Says(promise = 10, words = "all BLADES that have not WORKED and are not oiled RUST: EDGE is 1 less, 0 at least; the next day.")
+    @Says(promise = {9, 10}, words = {"all BLADES that have not WORKED and are not oiled RUST: EDGE is 1 less, 0 at least; the next day.",
+        "day (up to 99)"})
     static void rustDownTo0() {
         String forge = "down 5 0 1 0;up 5 0 2 0;down 5 0 0 0;up 5 0 20 0;rivet 1 1;cloth 1 1 0;";
         BladePairs x = till(forge, "day;day;day;", 3);
@@ -326,6 +327,7 @@ public final class EdgeYearTest {
         // who has WORKED, and is parted then
         x = till(forge, "cut 1 0;heat 1;part 1;day;", 4);
         Check.due("she has WORKED, though parted", x.state(0, 0, 4, 41), 19);
+        // 99 is farther than DEEDS and draws can go
         x = till("", "day;".repeat(40), 40);
         Check.due("the last day", x.state(0, 0, 40, 0), 40);
     }
