@@ -100,6 +100,19 @@ public final class EdgeClothTest {
         works(pairs(2) + "cloth 31 0 0;cloth 31 1 1;", 1, 0, 0);
     }
 
+    @Says(promise = 15, words = "the most PRICES together")
+    static void worksGivesUpALittleForMuch() {
+        // what comes first in order of numbers is not the most, wherever the dear CLOTH is
+        works(pairs(9) + "cloth 1 1 9;cloth 1 20 9;", 20, 6, 0);
+        works(pairs(9) + "cloth 1 1 9;cloth 1 20 9;cloth 70 20 0;", 20, 6, 0, 6);
+        works(pairs(9) + "cloth 1 3 0;cloth 1 3 1;cloth 1 3 2;cloth 1 3 3;cloth 1 1 9;cloth 1 20 9;", 32, 0, 0, 0, 0, 6, 0);
+        works(pairs(9) + "cloth 1 1 9;cloth 1 2 9;cloth 1 3 9;cloth 1 4 9;cloth 1 5 9;cloth 1 6 9;", 6, 6, 6, 6, 6, 6, 0);
+        works(pairs(0, 9) + "cloth 1 1 9;cloth 1 1 9;cloth 39 20 9;", 21, 0, 6, 1);
+        works(pairs(1) + "cloth 30 9 0;cloth 30 9 1;cloth 31 20 2;", 20, 6, 6, 0);
+        works(pairs(1) + "cloth 30 10 0;cloth 30 10 1;cloth 31 20 2;", 20, 0, 0, 6);
+        works(pairs(1) + "cloth 30 10 0;cloth 30 11 1;cloth 31 20 2;", 21, 0, 0, 6);
+    }
+
     private static void crew(String forge, int due) {
         Check.due("CREW of " + forge, Check.forge(forge).crew(0), due);
     }

@@ -213,6 +213,20 @@ public final class EdgeGameTest {
         }
     }
 
+    @Says(promise = 18, words = "couples of calls (21 times the first's, and the second's) by which neither wins more by another one: how many; the k-th")
+    static void restsOfOneCostBehindAnother() {
+        int[][] costs = {{0, 0}, {20, 20}, {0, 20}, {20, 0}, {3, 17}, {17, 3}, {0, 0}};
+        BladePairs x = new BladePairs();
+        for (int[] cost : costs) {
+            int many = new BladePairs().rest(cost[0], cost[1], NONE);
+            Check.due("how many of " + cost[0] + ", " + cost[1], x.rest(cost[0], cost[1], NONE), many);
+            for (int k = 0; k <= many && k < 30; k++) {
+                Check.due("the " + k + "th", x.rest(cost[0], cost[1], k), new BladePairs().rest(cost[0], cost[1], k));
+            }
+            Check.due("who sells", x.rest(cost[0], cost[1], -2), new BladePairs().rest(cost[0], cost[1], -2));
+        }
+    }
+
     @Says(promise = 18, words = "NONE: there is none such, or other numbers.")
     static void restsOfOtherCosts() {
         BladePairs x = new BladePairs();
@@ -248,10 +262,8 @@ public final class EdgeGameTest {
                     }
                 }
                 Check.due("there always are RESTS", sells[0] + sells[1] > 0, true);
-                if (sells[0] == sells[1]) {
-                    alike++;
-                    Check.due("both in as many, costs " + c + ", " + d, new BladePairs().rest(c, d, -2), 0);
-                }
+                Check.due("who sells, costs " + c + ", " + d, new BladePairs().rest(c, d, -2), sells[1] > sells[0] ? 1 : 0);
+                alike += sells[0] == sells[1] ? 1 : 0;
             }
         }
         Check.due("there are such costs", alike > 0, true);

@@ -54,6 +54,105 @@ public final class EdgeRowTest {
         }
     }
 
+    @Says(promise = {11, 12, 13, 24}, words = {"LEAVING of the PAIRS that are told (how 0), of ASKED (1), SHE (2), CHANGED (3), BEST (4), UNLIKE (5).",
+        "Of a ROW (how 1 to 5, as above)", "MOVES to a ROW (1 to 5 as above)"})
+    static void eachHowHasItsOwnRow() {
+        // FITS 30, 28, 28, 26: only UNLIKE parts the two who fit best
+        BladePairs x = Check.forge("down 10 0 0 0;down 11 0 0 0;up 10 0 0 0;up 9 0 0 0;" + Edges.rivets(1, 0));
+        for (int how = 1; how <= 4; how++) {
+            row(x, how, 0, 0, 1);
+            Check.due("to be parted for " + how, x.moves(0, how, false), 2);
+        }
+        row(x, 5, 1, 1, 0);
+        Check.due("to be parted for 5", x.moves(0, 5, false), 0);
+        Check.due("LEAVING as told", x.leaving(0, 0), 1);
+        Check.due("UNLIKE", x.rows(0, 2), 28);
+        Check.due("ROWS that stand, behind UNLIKE", x.rows(0, 3), 1);
+        // FITS 24, 14, 20, 0: BEST and UNLIKE part them
+        x = Check.forge("down 10 0 0 0;down 18 0 0 0;up 13 0 0 0;up 2 0 0 0;");
+        for (int how = 1; how <= 3; how++) {
+            row(x, how, 0, 0, 1);
+        }
+        row(x, 4, 1, 1, 0);
+        row(x, 5, 1, 1, 0);
+        Check.due("UNLIKE", x.rows(0, 2), 14);
+        // FITS 26, 28 and 6, 8: UNLIKE parts the couple of 28, as the other one were of 6 then
+        x = Check.forge("down 10 0 0 0;down 20 0 0 0;up 8 0 0 0;up 9 0 0 0;");
+        Check.due("UNLIKE", x.rows(0, 2), 8);
+        row(x, 5, 1, 0, 1);
+        // the least FIT may be anybody's
+        Check.due("the first one's", Check.forge("down 1 0 0 0;down 9 0 0 0;up 5 0 0 0;up 9 0 0 0;").rows(0, 2), 22);
+        Check.due("the last one's", Check.forge("down 9 0 0 0;down 1 0 0 0;up 9 0 0 0;up 5 0 0 0;").rows(0, 2), 22);
+    }
+
+    @Says(promise = {11, 12}, words = {"ASKED: the ROW that stands by which each DOWN has the best he has in any; SHE: that by which each UP has.",
+        "It STANDS, if there are none."})
+    static void whoIsLeftForABetterOne() {
+        // UP 0 is the best for both, and likes DOWN 1 better
+        everyStandingRow(Check.forge("down 6 0 0 0;down 5 0 0 0;up 5 0 0 0;up 9 0 0 0;"), 1, 0);
+        everyStandingRow(Check.forge("down 6 0 0 0;down 5 0 0 0;up 5 0 0 0;"), 6, 0);
+        // DOWN 0 is the best for both, and likes UP 1 better
+        everyStandingRow(Check.forge("down 5 0 0 0;down 9 0 0 0;up 6 0 0 0;up 5 0 0 0;"), 1, 0);
+        everyStandingRow(Check.forge("down 5 0 0 0;up 6 0 0 0;up 5 0 0 0;"), 1);
+        // each in turn leaves the one before: the last of six is the best for all
+        everyStandingRow(Check.forge("down 7 0 0 0;down 6 0 0 0;down 5 0 0 0;down 4 0 0 0;down 3 0 0 0;down 2 0 0 0;up 1 0 0 0;"),
+                6, 6, 6, 6, 6, 0);
+    }
+
+    private static void everyStandingRow(BladePairs x, int... row) {
+        for (int how = 1; how <= 3; how++) {
+            row(x, how, 0, row);
+        }
+    }
+
+    @Says(promise = {11, 12, 13}, words = "A ROW of DOWNS tells of each his UP, or none (6), no UP twice.")
+    static void everyRowCanBeTheBest() {
+        for (int[] sizes : new int[][] {{6, 6}, {3, 5}, {5, 3}, {1, 6}, {6, 1}, {2, 2}}) {
+            everyRow(sizes[0], sizes[1], new int[sizes[0]], 0, 0);
+        }
+    }
+
+    /** All ROWS with as many as can be, and for each a FORGE in which those couples are of like LENGTH. */
+    private static void everyRow(int downs, int ups, int[] row, int d, int taken) {
+        if (d < downs) {
+            int left = downs - d - 1;
+            int free = ups - Integer.bitCount(taken);
+            for (int u = 0; u <= 6; u++) {
+                boolean may = u < ups ? (taken >> u & 1) == 0 : u == 6 && free <= left;
+                if (may) {
+                    row[d] = u;
+                    everyRow(downs, ups, row, d + 1, u < 6 ? taken | 1 << u : taken);
+                }
+            }
+            return;
+        }
+        int[] downLengths = new int[downs];
+        int[] upLengths = new int[ups];
+        Arrays.fill(downLengths, 20);
+        Arrays.fill(upLengths, 20);
+        for (int i = 0; i < downs; i++) {
+            if (row[i] != 6) {
+                downLengths[i] = 1 + 3 * i;
+                upLengths[row[i]] = 1 + 3 * i;
+            }
+        }
+        StringBuilder forge = new StringBuilder();
+        for (int length : downLengths) {
+            forge.append("down ").append(length).append(" 0 0 0;");
+        }
+        for (int length : upLengths) {
+            forge.append("up ").append(length).append(" 0 0 0;");
+        }
+        BladePairs x = Check.forge(forge.toString());
+        int couples = Math.min(downs, ups);
+        Check.due("BEST of " + forge, x.rows(0, 1), 30 * couples);
+        Check.due("UNLIKE of " + forge, x.rows(0, 2), 30);
+        Check.due("ROWS that stand of " + forge, x.rows(0, 3), 1);
+        for (int how = 1; how <= 5; how++) {
+            row(x, how, 0, row);
+        }
+    }
+
     @Says(promise = 11, words = "NONE: there is none such, or another how.")
     static void leavingOfOtherHows() {
         BladePairs x = Check.forge(Edges.alike(2, 2));
@@ -234,6 +333,34 @@ public final class EdgeRowTest {
         trade(Edges.alike(6, 6) + Edges.rivets(5, 4, 3, 2, 1, 0), 6, 0, 5, 4, 3, 2, 1, 0);
     }
 
+    @Says(promise = {14, 25}, words = "each points at the DOWN who has the UP he likes best of all that are left")
+    static void tradeOfThoseWhoLikeTwoAlike() {
+        // DOWN 0 likes both alike: UP 0, of the least number; DOWN 1 likes UP 1 better
+        String forge = "down 5 0 0 0;down 6 0 0 0;up 4 0 0 0;up 6 0 0 0;";
+        trade(forge + Edges.rivets(1, 0), 1, 2, 0, 1);
+        trade(forge + Edges.rivets(0, 1), 2, 0, 0, 1);
+        // DOWN 1 likes UP 0 better
+        forge = "down 5 0 0 0;down 4 0 0 0;up 4 0 0 0;up 6 0 0 0;";
+        trade(forge + Edges.rivets(0, 1), 2, 0, 0, 1);
+        trade(forge + Edges.rivets(1, 0), 2, 0, 1, 0);
+        // FITS that differ by 1 are not alike: 17 for UP 0 and 18 for UP 1
+        forge = "down 5 0 0 0;down 5 3 0 0;up 9 1 0 0;up 5 0 0 1;";
+        trade(forge + Edges.rivets(0, 1), 1, 2, 1, 0);
+        trade(forge + Edges.rivets(1, 0), 2, 0, 1, 0);
+    }
+
+    @Says(promise = 25, words = "RINGS: how many, or (other) who has another one.")
+    static void ringsAskedFirstOfAll() {
+        String forge = TWINS + Edges.rivets(1, 0, 3, 2, 4, 5);
+        Check.due("RINGS", Check.forge(forge).rings(0, false), 4);
+        Check.due("others", Check.forge(forge).rings(0, true), 4);
+        BladePairs x = Check.forge(forge);
+        Check.due("HIRE", x.hire(0, 0, false), 0);
+        Check.due("others behind HIRE", x.rings(0, true), 4);
+        Check.due("HIRE", x.hire(0, 1, false), 1);
+        Check.due("RINGS behind HIRE", x.rings(0, false), 4);
+    }
+
     @Says(promise = 25, words = "NONE: there is none such.")
     static void ringsOfNoSuchForge() {
         BladePairs x = Check.forge("");
@@ -389,6 +516,13 @@ public final class EdgeRowTest {
         hire(Edges.alike(6, 1), new int[] {NONE, 0, NONE, NONE, NONE, NONE}, 31);
         // an UP of FIT 0 for 0 is taken when the other's WAGE has come to 31
         hire(Edges.alike(2, 1) + "up 20 3 0 1;", new int[] {1, 0}, 31, 0);
+        // who has left is out of it: the next ones bid on
+        hire("down 1 0 0 0;down 1 0 0 0;down 20 0 0 0;up 20 0 0 0;", new int[] {NONE, NONE, 0}, 2);
+        hire("down 1 0 0 0;down 1 0 0 0;down 1 0 0 0;down 1 0 0 0;down 1 0 0 0;down 20 0 0 0;up 20 0 0 0;",
+                new int[] {NONE, NONE, NONE, NONE, NONE, 0}, 2);
+        // FIT less WAGE: UP 1 is better by 2, till her WAGE is 2; of like ones the least then
+        hire("down 5 0 0 0;down 5 0 0 0;up 6 0 0 0;up 5 0 0 0;", new int[] {1, 0}, 0, 2);
+        hire("down 5 0 0 0;down 5 0 0 0;up 5 0 0 0;up 6 0 0 0;", new int[] {1, 0}, 3, 0);
         // of like ones the least, though somebody has her and nobody the other
         hire(Edges.alike(2, 2), new int[] {1, 0}, 1, 0);
     }

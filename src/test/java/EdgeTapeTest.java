@@ -373,6 +373,10 @@ public final class EdgeTapeTest {
             x.text(sort, 0);
             x.text(sort, 1);
         }
+        // other bytes on all of the tape
+        for (int i = 0; i < 30; i++) {
+            x.feed(-1, -1, -1, -1, -1);
+        }
         Check.due("again", x.again(2), true);
         faultIs(x, 3, 56);
         tapeHas(x, 600);

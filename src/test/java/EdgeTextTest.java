@@ -220,6 +220,10 @@ public final class EdgeTextTest {
                 fault(sort, word + word + rest, 1, 0);
                 fault(sort, word.substring(0, word.length() - 1) + rest, 1, 0);
                 fault(sort, word.substring(1) + rest, 1, 0);
+                for (int i = 0; i < word.length(); i++) {
+                    String other = word.charAt(i) == 'z' ? "y" : "z";
+                    fault(sort, word.substring(0, i) + other + word.substring(i + 1) + rest, 1, 0);
+                }
                 fault(sort, word.toUpperCase() + rest, 1, 0);
                 fault(sort, word.substring(0, 1).toUpperCase() + word.substring(1) + rest, 1, 0);
             }
@@ -310,6 +314,30 @@ public final class EdgeTextTest {
                 }
             }
         }
+    }
+
+    @Says(promise = {4, 5}, words = "1 the first byte or token with which no text goes on")
+    static void theFirstOfSeveral() {
+        // behind each the text would go on by itself, and is wrong once more
+        fault(0, "down 1 up 1 0 0 0;x", 1, 7);
+        fault(0, "down 1 0 0 0 up 1 0 0 0;x", 1, 13);
+        fault(0, "cloth 1 up 1 0 0 0;x", 1, 8);
+        fault(0, "cloth 1 0 0 up 1 0 0 0;x", 1, 12);
+        fault(0, "rivet 1 up 1 0 0 0;x", 1, 8);
+        fault(0, "rivet 1 1 up 1 0 0 0;x", 1, 10);
+        fault(0, "x up 1 0 0 0;x", 1, 0);
+        fault(1, "cut day;x", 1, 4);
+        fault(1, "cut 0 day;x", 1, 6);
+        fault(1, "cut 0 0 day;x", 1, 8);
+        fault(1, "oil day;x", 1, 4);
+        fault(1, "grind day;x", 1, 6);
+        fault(1, "grind up day;x", 1, 9);
+        fault(1, "day day;x", 1, 4);
+        fault(1, "; day;x", 1, 0);
+        fault(2, "left left 1;x", 1, 5);
+        fault(2, "left no left 1;x", 1, 8);
+        fault(2, "left 1 left 1;x", 1, 7);
+        fault(2, "no left 1;x", 1, 0);
     }
 
     @SuppressWarnings({"unchecked", "rawtypes"})

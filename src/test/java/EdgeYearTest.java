@@ -324,6 +324,14 @@ public final class EdgeYearTest {
         Check.due("behind the day", x.state(0, 0, 2, 41), 19);
         Check.due("behind the next", x.state(0, 0, 3, 41), 18);
         Check.due("who has not worked", x.state(0, 0, 2, 40), 1);
+        // the DOWN likewise
+        x = till("down 5 0 9 0;down 5 0 9 0;up 5 0 0 0;rivet 0 0;cloth 1 1 0;", "cut 0 0;day;day;cut 0 0;day;", 5);
+        int[] worked = {9, 8, 8, 7, 6, 6};
+        int[] idle = {9, 9, 8, 7, 7, 6};
+        for (int n = 0; n <= 5; n++) {
+            Check.due("who works, behind " + n, x.state(0, 0, n, 10), worked[n]);
+            Check.due("who does not, behind " + n, x.state(0, 0, n, 11), idle[n]);
+        }
         // who has WORKED, and is parted then
         x = till(forge, "cut 1 0;heat 1;part 1;day;", 4);
         Check.due("she has WORKED, though parted", x.state(0, 0, 4, 41), 19);
@@ -482,6 +490,11 @@ public final class EdgeYearTest {
         BladePairs pair = Check.forge("down 2 0 3 0;up 2 0 3 0;cloth 36 4 0;rivet 0 0;");
         Check.due("heat", pair.drawn(0, -1, 1, 3), 1);
         Check.due("part of one who is not hot", pair.drawn(0, 30, 1, 30), 0);
+        // seed 2: 22817 (1: heat), 45682 (2: part), 27095 (7: day)
+        Check.due("a PAIR behind heat", pair.drawn(0, 2, 1, 30), 0);
+        Check.due("none behind part", pair.drawn(0, 2, 2, 30), NONE);
+        Check.due("hot still", pair.drawn(0, 2, 2, 3), 1);
+        Check.due("hot no more", pair.drawn(0, 2, 3, 3), 0);
         Check.due("cut", pair.drawn(0, 28, 1, 2), 1);
         Check.due("grind", pair.drawn(0, 13, 1, 10), 8);
         Check.due("LENGTH", pair.drawn(0, 13, 1, 20), 1);

@@ -7,19 +7,24 @@ public final class GamesTest {
     private static final int NONE = BladePairs.NONE;
 
     public static void main(String[] args) {
-        BladePairs x = new BladePairs();
-        grindByAllWays(x);
-        grindByHand(x);
-        momentByHand(x);
-        momentByFractions(x);
-        restByHand(x);
-        restByAllCalls(x);
+        grindByAllWays();
+        grindByHand(new BladePairs());
+        for (int n = 15; n <= 30; n++) {
+            grindByOneDayLess(new BladePairs(), n);
+        }
+        momentByHand(new BladePairs());
+        for (int w = 0; w < 10; w++) {
+            momentByFractions(new BladePairs(), w);
+        }
+        restByHand(new BladePairs());
+        restByAllCalls();
         Check.end();
     }
 
     /** Every way of cutting and grinding of up to 14 days. */
-    private static void grindByAllWays(BladePairs x) {
+    private static void grindByAllWays() {
         for (int n = 0; n <= 14; n++) {
+            BladePairs x = new BladePairs();
             for (int edge = 0; edge <= 20; edge++) {
                 int most = -1;
                 int first = -1;
@@ -54,15 +59,16 @@ public final class GamesTest {
         Check.due("EDGE 21", x.grind(3, 21, true), -2);
         Check.due("EDGE -1", x.grind(3, -1, true), -2);
         Check.due("n 30", x.grind(30, 20, false) > 0, true);
-        for (int n = 15; n <= 30; n++) {
-            for (int edge = 0; edge <= 20; edge++) {
-                int by = Math.max(edge + x.grind(n - 1, Math.max(0, edge - 1), false),
-                        x.grind(n - 1, Math.min(20, edge + 5), false));
-                Check.due("grind " + n + " " + edge, x.grind(n, edge, false), by);
-                boolean cuts = edge + x.grind(n - 1, Math.max(0, edge - 1), false) == by;
-                int later = cuts ? x.grind(n - 1, Math.max(0, edge - 1), true) : 0;
-                Check.due("first " + n + " " + edge, x.grind(n, edge, true), !cuts ? 0 : later == NONE ? NONE : later + 1);
-            }
+    }
+
+    private static void grindByOneDayLess(BladePairs x, int n) {
+        for (int edge = 0; edge <= 20; edge++) {
+            int by = Math.max(edge + x.grind(n - 1, Math.max(0, edge - 1), false),
+                    x.grind(n - 1, Math.min(20, edge + 5), false));
+            Check.due("grind " + n + " " + edge, x.grind(n, edge, false), by);
+            boolean cuts = edge + x.grind(n - 1, Math.max(0, edge - 1), false) == by;
+            int later = cuts ? x.grind(n - 1, Math.max(0, edge - 1), true) : 0;
+            Check.due("first " + n + " " + edge, x.grind(n, edge, true), !cuts ? 0 : later == NONE ? NONE : later + 1);
         }
     }
 
@@ -97,15 +103,13 @@ public final class GamesTest {
         }
     }
 
-    private static void momentByFractions(BladePairs x) {
-        for (int w = 0; w < 10; w++) {
-            for (int v = 0; v < 10; v++) {
-                for (int n = 0; n < 10; n++) {
-                    BigInteger[] now = {BigInteger.valueOf(v * (w + 1)), BigInteger.ONE};
-                    BigInteger[] best = mean(w, v, n);
-                    boolean atOnce = now[0].multiply(best[1]).compareTo(best[0].multiply(now[1])) >= 0;
-                    moment(x, w, v, n, best[0].longValueExact(), best[1].longValueExact(), atOnce ? 1 : 0);
-                }
+    private static void momentByFractions(BladePairs x, int w) {
+        for (int v = 0; v < 10; v++) {
+            for (int n = 0; n < 10; n++) {
+                BigInteger[] now = {BigInteger.valueOf(v * (w + 1)), BigInteger.ONE};
+                BigInteger[] best = mean(w, v, n);
+                boolean atOnce = now[0].multiply(best[1]).compareTo(best[0].multiply(now[1])) >= 0;
+                moment(x, w, v, n, best[0].longValueExact(), best[1].longValueExact(), atOnce ? 1 : 0);
             }
         }
     }
@@ -141,9 +145,10 @@ public final class GamesTest {
         Check.due("the first is cheaper", x.rest(0, 20, -2), 0);
     }
 
-    private static void restByAllCalls(BladePairs x) {
+    private static void restByAllCalls() {
         for (int c = 0; c <= 20; c++) {
             for (int d = 0; d <= 20; d++) {
+                BladePairs x = new BladePairs();
                 List<Integer> rests = new ArrayList<>();
                 int[] sells = new int[2];
                 for (int p = 0; p <= 20; p++) {

@@ -10,13 +10,13 @@ public final class OracleTest {
         Random r = new Random(20261118);
         for (int i = 0; i < 400; i++) {
             Oracle o = Oracle.random(r);
-            BladePairs x = Check.forge(o.text());
-            fits(o, x);
-            rows(o, x);
-            trades(o, x);
-            cuts(o, x);
-            rest(o, x);
-            whose(o, x, r);
+            // an object is used for 512 calls at most
+            fits(o, Check.forge(o.text()));
+            rows(o, Check.forge(o.text()));
+            trades(o, Check.forge(o.text()));
+            cuts(o, Check.forge(o.text()));
+            rest(o, Check.forge(o.text()));
+            whose(o, Check.forge(o.text()), r);
         }
         Check.end();
     }

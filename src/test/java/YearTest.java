@@ -188,10 +188,12 @@ public final class YearTest {
         BladePairs x = with(o.text(), text.toString());
         int end = states.size() - 1;
         Check.due("till of " + o.text() + " by " + text, x.till(0, 0), end);
+        Check.due("beyond END", x.state(0, 0, end + 1, 0), -2);
         for (int i = 0; i <= end; i++) {
+            // an object is used for 512 calls at most
+            x = i % 6 == 0 ? with(o.text(), text.toString()) : x;
             same(o, x, i, 0, states.get(i), o.text() + " by " + text);
         }
-        Check.due("beyond END", x.state(0, 0, end + 1, 0), -2);
     }
 
     /** Soft CLOTHS, so that there is something to cut. */
