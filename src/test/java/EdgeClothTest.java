@@ -105,6 +105,7 @@ public final class EdgeClothTest {
         // what comes first in order of numbers is not the most, wherever the dear CLOTH is
         works(pairs(9) + "cloth 1 1 9;cloth 1 20 9;", 20, 6, 0);
         works(pairs(9) + "cloth 1 1 9;cloth 1 20 9;cloth 70 20 0;", 20, 6, 0, 6);
+        works(pairs(9) + "cloth 1 1 9;cloth 1 20 9;cloth 70 0 0;", 20, 6, 0, 6);
         works(pairs(9) + "cloth 1 3 0;cloth 1 3 1;cloth 1 3 2;cloth 1 3 3;cloth 1 1 9;cloth 1 20 9;", 32, 0, 0, 0, 0, 6, 0);
         works(pairs(9) + "cloth 1 1 9;cloth 1 2 9;cloth 1 3 9;cloth 1 4 9;cloth 1 5 9;cloth 1 6 9;", 6, 6, 6, 6, 6, 6, 0);
         works(pairs(0, 9) + "cloth 1 1 9;cloth 1 1 9;cloth 39 20 9;", 21, 0, 6, 1);
