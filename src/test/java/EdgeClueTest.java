@@ -142,6 +142,23 @@ public final class EdgeClueTest {
         whose(TWO + "rivet 0 0;rivet 1 1;", "left 1;", 1, 6);
     }
 
+    @Says(promise = 20, words = "couples (6 times the DOWN, and the UP) by whom all CLUES are so")
+    static void cluesOfOtherTextsDoNotCount() {
+        BladePairs x = Edges.clues(TWO, "left 0;".repeat(8));
+        Check.due("by eight", x.whose(0, 0, 0), 1);
+        Check.due("fewer", Check.tell(x, 2, NONE, "left no 1;"), 1);
+        Check.due("by one", x.whose(0, 1, 0), 2);
+        Check.due("by eight still", x.whose(0, 0, 0), 1);
+        Check.due("none in the place of eight", Check.tell(x, 2, 0, ""), 0);
+        Check.due("by none", x.whose(0, 0, 0), 4);
+        // a FAULT leaves nothing behind
+        Check.due("faulty", Check.tell(x, 2, 0, "left 0;left 0;x"), NONE);
+        Check.due("by none still", x.whose(0, 0, 0), 4);
+        Check.due("one", Check.tell(x, 2, 0, "left 2;"), 0);
+        Check.due("by one", x.whose(0, 0, 10), 7);
+        Check.due("and no other", x.whose(0, 0, 0), 1);
+    }
+
     @Says(promise = 20, words = "SURE of a side: the DOWN, or the UP, who is in all")
     static void sureOfOneSideOfBothAndOfNone() {
         String three = "down 1 0 0 0;down 5 0 0 1;down 9 0 0 1;up 1 0 0 0;up 5 0 0 0;up 9 0 0 1;";

@@ -153,6 +153,40 @@ public final class EdgeRowTest {
         }
     }
 
+    @Says(promise = {11, 12, 13, 14, 24, 25, 30, 31, 33, 34}, words = "(Of a FORGE as told.)")
+    static void ofASmallForgeBehindALargeOne() {
+        String[] smalls = {"", Edges.alike(1, 1), STRANGERS, "down 1 0 0 0;down 1 0 0 0;up 20 0 0 0;up 20 0 0 0;rivet 0 1;rivet 1 0;",
+            Edges.alike(6, 1), Edges.alike(1, 6), "down 1 0 0 0;up 20 0 0 0;up 20 0 0 0;up 20 0 0 0;up 20 0 0 0;up 20 0 0 0;"};
+        for (String small : smalls) {
+            BladePairs x = Check.forge(Edges.alike(6, 6) + Edges.rivets(1, 2, 3, 4, 5, 0));
+            Check.due("a small one", Check.tell(x, 0, NONE, small), 1);
+            BladePairs alone = Check.forge(small);
+            for (int q = 0; q < 60; q++) {
+                ask(x, 0, q);
+                Check.due("question " + q + " of " + small, ask(x, 1, q), ask(alone, 0, q));
+            }
+        }
+    }
+
+    /** One of sixty questions of ROWS and what goes with them. */
+    private static long ask(BladePairs x, int forge, int q) {
+        int n = q % 10;
+        switch (q / 10) {
+            case 0:
+                return n < 6 ? x.leaving(forge, n) : x.rows(forge, n - 6);
+            case 1:
+                return n < 5 ? x.row(forge, n + 1, NONE) : x.row(forge, n - 4, 0);
+            case 2:
+                return n < 5 ? x.moves(forge, n + 1, false) : x.moves(forge, n - 4, true);
+            case 3:
+                return n < 6 ? x.trade(forge, n) : n < 8 ? x.rings(forge, n == 6) : x.swap(forge, n == 8);
+            case 4:
+                return n < 6 ? x.hire(forge, n, n % 2 == 0) : n == 6 ? x.settles(forge) : x.line(forge, 1, n - 7);
+            default:
+                return n < 6 ? x.hire(forge, n, n % 2 == 1) : x.line(forge, n, 1);
+        }
+    }
+
     @Says(promise = 11, words = "NONE: there is none such, or another how.")
     static void leavingOfOtherHows() {
         BladePairs x = Check.forge(Edges.alike(2, 2));

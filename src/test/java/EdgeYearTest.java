@@ -166,6 +166,14 @@ public final class EdgeYearTest {
         // and so is she
         till(PAIR, "heat 0;part 0;rivet 1 0;rivet 0 1;", 4);
         till(PAIR, "rivet 1 1;heat 0;part 1;", 2);
+        // each of six, the others staying
+        String six = Edges.alike(6, 6) + Edges.rivets(5, 4, 3, 2, 1, 0);
+        for (int d = 0; d < 6; d++) {
+            x = till(six, "heat " + d + ";part " + d + ";rivet " + d + " " + (5 - d) + ";", 3);
+            for (int other = 0; other < 6; other++) {
+                Check.due("DOWN " + other + ", " + d + " being parted", x.state(0, 0, 2, 30 + other), other == d ? NONE : 5 - other);
+            }
+        }
     }
 
     @Says(promise = {9, 10}, words = "he is hot till the day ends")
