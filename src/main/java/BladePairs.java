@@ -234,9 +234,9 @@ public final class BladePairs {
             case 0:
                 return Long.bitCount(couples);
             case 1:
-                return Clues.sureDown(couples);
+                return Clues.sureBlade(couples, true);
             case 2:
-                return Clues.sureUp(couples);
+                return Clues.sureBlade(couples, false);
             case 3:
                 return Clues.bestNext(f, couples);
             default:
@@ -849,27 +849,16 @@ public final class BladePairs {
             return NO_SUCH;
         }
 
-        static int sureDown(long couples) {
+        /** The DOWN, or else the UP, who is in all couples; NONE, if nobody is, or there are no couples. */
+        static int sureBlade(long couples, boolean down) {
             int sure = NONE;
             for (int i = 0; i < COUPLES; i++) {
                 if ((couples >> i & 1) == 1) {
-                    if (sure != NONE && sure != i / MOST) {
+                    int blade = down ? i / MOST : i % MOST;
+                    if (sure != NONE && sure != blade) {
                         return NONE;
                     }
-                    sure = i / MOST;
-                }
-            }
-            return sure;
-        }
-
-        static int sureUp(long couples) {
-            int sure = NONE;
-            for (int i = 0; i < COUPLES; i++) {
-                if ((couples >> i & 1) == 1) {
-                    if (sure != NONE && sure != i % MOST) {
-                        return NONE;
-                    }
-                    sure = i % MOST;
+                    sure = blade;
                 }
             }
             return sure;
@@ -1443,6 +1432,8 @@ public final class BladePairs {
     private static final class Matcher {
         /** ROWS in which as many are as can be: never more than 6 in 6 places. */
         private static final int ROWS_MOST = 720;
+        /** Above every score. */
+        private static final int NO_SCORE = 1000;
         private static final int WIDTH = MOST + 1;
         private static final int SETTLES_MOST = 100;
 
@@ -1568,7 +1559,7 @@ public final class BladePairs {
 
         /** The first ROW by numbers with the least score; answers that score. */
         private int search(int how) {
-            int least = Integer.MAX_VALUE;
+            int least = NO_SCORE;
             Arrays.fill(chosen, MOST);
             beginRows();
             boolean more = true;
@@ -1984,7 +1975,7 @@ public final class BladePairs {
             Arrays.fill(row, MOST);
             Arrays.fill(bestRow, MOST);
             best = NONE;
-            assign(f, 0, 0);
+            assign(this, f, 0, 0);
         }
 
         private void orderByDay(Forge f) {
@@ -2030,27 +2021,31 @@ public final class BladePairs {
             return cut;
         }
 
-        /** CLOTH by CLOTH, ROWS in the order of numbers, so that only a better one takes the place. */
-        private void assign(Forge f, int c, int sum) {
-            if (c < 0 || c > MOST || sum + ahead[c] <= best) {
+        /** CLOTH by CLOTH, rows in the order of numbers, so that only a better one takes the place. */
+        private static void assign(Workshop shop, Forge f, int c, int sum) {
+            if (c < 0 || c > MOST || sum + shop.ahead[c] <= shop.best) {
                 return;
             }
             if (c >= f.cloths || c >= MOST) {
-                best = sum;
-                System.arraycopy(row, 0, bestRow, 0, MOST);
+                shop.keepRow(sum);
                 return;
             }
             for (int d = 0; d < f.downs.size && d < MOST; d++) {
-                int set = taken[d] | 1 << c;
-                if (f.upOf(d) != NONE && manages[d * SETS + set]) {
-                    taken[d] = set;
-                    row[c] = d;
-                    assign(f, c + 1, sum + f.price[c]);
-                    taken[d] = set & ~(1 << c);
+                int set = shop.taken[d] | 1 << c;
+                if (f.upOf(d) != NONE && shop.manages[d * SETS + set]) {
+                    shop.taken[d] = set;
+                    shop.row[c] = d;
+                    assign(shop, f, c + 1, sum + f.price[c]);
+                    shop.taken[d] = set & ~(1 << c);
                 }
             }
-            row[c] = MOST;
-            assign(f, c + 1, sum);
+            shop.row[c] = MOST;
+            assign(shop, f, c + 1, sum);
+        }
+
+        private void keepRow(int prices) {
+            best = prices;
+            System.arraycopy(row, 0, bestRow, 0, MOST);
         }
 
         private static int cutters(Forge f, int c) {
